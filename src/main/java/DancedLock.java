@@ -783,6 +783,8 @@ public final class DancedLock {
 
     /** A plan's steps, danced on the floor by the troupe, and the search for the first plan. */
     private static final class Dance {
+        private static final int MOST_ROWS = 7 * 7 * 7 * 7;
+
         private final Floor floor = new Floor();
         private final Troupe troupe = new Troupe();
         private final int[] steps = new int[MOST_BEATS * Troupe.MOST];
@@ -790,6 +792,8 @@ public final class DancedLock {
         private final int[] pulls = new int[Troupe.MOST];
         private final boolean[] limping = new boolean[Troupe.MOST];
         private int dancers;
+        /** A bit for each row of limpers' boards by which the odd beat was found not to be danced. */
+        private final long[] hopeless = new long[(MOST_ROWS + 63) / 64];
 
         /** The dancers as they are, or as if all were of kind 0. */
         private void callUp(boolean asPlain) {
@@ -802,16 +806,14 @@ public final class DancedLock {
         }
 
         int stepOf(int k, int d) {
-            return hasStep(k, d) ? steps[k * Troupe.MOST + d] : 0;
-        }
-
-        private boolean hasStep(int k, int d) {
-            return k >= 0 && k < MOST_BEATS && d >= 0 && d < Troupe.MOST;
+            int at = k * Troupe.MOST + d;
+            return at >= 0 && at < steps.length ? steps[at] : 0;
         }
 
         private void step(int k, int d, int b) {
-            if (hasStep(k, d)) {
-                steps[k * Troupe.MOST + d] = b;
+            int at = k * Troupe.MOST + d;
+            if (at >= 0 && at < steps.length) {
+                steps[at] = b;
             }
         }
 
@@ -880,6 +882,7 @@ public final class DancedLock {
         boolean findPlan(int door, boolean asPlain) {
             callUp(asPlain);
             for (int k = 0; k < floor.beatsOf(door); k += 2) {
+                Arrays.fill(hopeless, 0);
                 if (!place(door, k, 0)) {
                     return false;
                 }
@@ -893,7 +896,7 @@ public final class DancedLock {
                 return false;
             }
             if (d >= dancers) {
-                return k % 2 == 1 || !floor.hasBeat(door, k + 1) || place(door, k + 1, 0);
+                return k % 2 == 1 || !floor.hasBeat(door, k + 1) || placeBehind(door, k + 1);
             }
             if (isBound(k, d)) {
                 // What the plan says here is not danced: the first row says 0.
@@ -907,6 +910,25 @@ public final class DancedLock {
                 }
             }
             return false;
+        }
+
+        /** The limpers alone bind the odd beat k: what failed behind their boards is not sought again. */
+        private boolean placeBehind(int door, int k) {
+            int row = limpersRow(k - 1);
+            int word = row / 64;
+            if (word < 0 || word >= hopeless.length || (hopeless[word] >>> row % 64 & 1) != 0) {
+                return false;
+            }
+            hopeless[word] |= 1L << row % 64;
+            return place(door, k, 0);
+        }
+
+        private int limpersRow(int k) {
+            int row = 0;
+            for (int d = 0; d < dancers; d++) {
+                row = Floor.MOST_BOARDS * row + (limping[d] ? stepOf(k, d) : 0);
+            }
+            return row;
         }
 
         long rowsFor(int figure) {

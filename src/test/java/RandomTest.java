@@ -17,16 +17,24 @@ public final class RandomTest {
     private String told;
 
     public static void main(String[] args) {
-        for (int time = 0; time < 3000; time++) {
-            RandomTest test = new RandomTest();
-            test.make();
-            test.check();
-        }
+        // few enough beats for the plain reckoning to come to its end
+        test(3000, 4, 3, 3);
+        test(300, 7, 3, 2);
+        test(300, 4, 4, 2);
+        test(30, 7, 4, 2);
         CHECK.end();
     }
 
-    private void make() {
-        boards = 2 + RANDOM.nextInt(3);
+    private static void test(int times, int mostBoards, int mostDancers, int mostBeats) {
+        for (int time = 0; time < times; time++) {
+            RandomTest test = new RandomTest();
+            test.make(2 + RANDOM.nextInt(mostBoards - 1), RANDOM.nextInt(mostDancers + 1), mostBeats);
+            test.check();
+        }
+    }
+
+    private void make(int howManyBoards, int dancers, int mostBeats) {
+        boards = howManyBoards;
         needs = RANDOM.ints(boards, 1, 7).toArray();
         StringBuilder text = new StringBuilder("l").append(boards);
         for (int need : needs) {
@@ -34,7 +42,10 @@ public final class RandomTest {
         }
         int doors = 1 + RANDOM.nextInt(4);
         for (int door = 0; door < doors; door++) {
-            int[] figure = RANDOM.ints(1 + RANDOM.nextInt(3), 0, RANDOM.nextInt(4) == 0 ? 1 << boards : boards + 1).toArray();
+            int[] figure = new int[1 + RANDOM.nextInt(mostBeats)];
+            for (int k = 0; k < figure.length; k++) {
+                figure[k] = fewBoards();
+            }
             figures.add(figure);
             for (int k = 0; k < figure.length; k++) {
                 text.append(k == 0 ? ';' : ',');
@@ -43,7 +54,6 @@ public final class RandomTest {
                 }
             }
         }
-        int dancers = RANDOM.nextInt(4);
         kinds = RANDOM.ints(dancers, 0, 3).toArray();
         weights = RANDOM.ints(dancers, 1, 10).toArray();
         lock = Check.locked(text.toString());
@@ -51,6 +61,14 @@ public final class RandomTest {
             lock.dancer(kinds[d], weights[d]);
         }
         told = text + " " + Arrays.toString(kinds) + Arrays.toString(weights) + " ";
+    }
+
+    private int fewBoards() {
+        int set = 0;
+        for (int some = RANDOM.nextInt(5); some > 0; some--) {
+            set |= 1 << RANDOM.nextInt(boards);
+        }
+        return set;
     }
 
     private void check() {

@@ -146,6 +146,7 @@ public final class SheetTest {
         CHECK.due("far too many", x.copy(0, 3, 1, 2, Integer.MAX_VALUE), -13, x, 3);
         CHECK.due("far", x.copy(0, Integer.MAX_VALUE, 1, Integer.MAX_VALUE, 2), -13, x, 3);
         CHECK.due("least", x.copy(0, 0, 1, 0, Integer.MIN_VALUE), -13, x, 3);
+        CHECK.due("refused behind a fault", x.copy(4, 0, 0, 0, 0), UNKNOWN, x, 0);
         sheetIs(x, 0, 1, 1, 2, 3);
         sheetIs(x, 1, 1, 0, 0);
     }
