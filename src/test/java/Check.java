@@ -9,6 +9,13 @@ final class Check {
         }
     }
 
+    void same(String what, String got, String want) {
+        if (!got.equals(want)) {
+            wrong++;
+            System.out.println(what + " is " + got + ", due is " + want);
+        }
+    }
+
     /** A call that names faults: its answer, and what fault() tells after it. */
     void due(String call, long got, long want, DancedLock x, int fault) {
         due(call, got, want);

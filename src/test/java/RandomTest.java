@@ -19,9 +19,9 @@ public final class RandomTest {
     public static void main(String[] args) {
         // few enough beats for the plain reckoning to come to its end
         test(3000, 4, 3, 3);
-        test(300, 7, 3, 2);
-        test(300, 4, 4, 2);
-        test(30, 7, 4, 2);
+        test(3000, 7, 3, 2);
+        test(1500, 5, 4, 2);
+        test(2000, 7, 4, 2);
         CHECK.end();
     }
 
@@ -40,27 +40,33 @@ public final class RandomTest {
         for (int need : needs) {
             text.append(need);
         }
+        kinds = RANDOM.ints(dancers, 0, 3).toArray();
+        weights = RANDOM.ints(dancers, 1, 10).toArray();
         int doors = 1 + RANDOM.nextInt(4);
         for (int door = 0; door < doors; door++) {
             int[] figure = new int[1 + RANDOM.nextInt(mostBeats)];
+            int[] hidden = RANDOM.ints(figure.length * dancers, 0, boards).toArray();
+            boolean open = RANDOM.nextBoolean();
             for (int k = 0; k < figure.length; k++) {
-                figure[k] = fewBoards();
+                figure[k] = open ? felt(hidden, k, kinds) : fewBoards();
             }
             figures.add(figure);
-            for (int k = 0; k < figure.length; k++) {
-                text.append(k == 0 ? ';' : ',');
-                for (int b = 0; b < boards; b++) {
-                    text.append((figure[k] >> b & 1) != 0 ? "" + b : "");
-                }
-            }
+            append(text, figure);
         }
-        kinds = RANDOM.ints(dancers, 0, 3).toArray();
-        weights = RANDOM.ints(dancers, 1, 10).toArray();
         lock = Check.locked(text.toString());
         for (int d = 0; d < dancers; d++) {
             lock.dancer(kinds[d], weights[d]);
         }
         told = text + " " + Arrays.toString(kinds) + Arrays.toString(weights) + " ";
+    }
+
+    private void append(StringBuilder text, int[] figure) {
+        for (int k = 0; k < figure.length; k++) {
+            text.append(k == 0 ? ';' : ',');
+            for (int b = 0; b < boards; b++) {
+                text.append((figure[k] >> b & 1) != 0 ? "" + b : "");
+            }
+        }
     }
 
     private int fewBoards() {
