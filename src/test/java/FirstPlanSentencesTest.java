@@ -141,6 +141,9 @@ public final class FirstPlanSentencesTest implements Numbers {
         x.planIs(0, last, last, last, last, last, last);
         x.planIs(1, limped, last);
         x.planIs(2, last, limped);
+        // no limper may tread 0, nor the second one 1 with the first: many rows dance beat 0 and fail in beat 1
+        x.locked("l41391;0,3").dancers(0, 1, 1, 1, 1, 2, 1, 1);
+        x.planIs(0, new int[] {0, 1, 2, 1}, new int[] {3, 0, 0, 0});
     }
 
     private static void planRefused() {
