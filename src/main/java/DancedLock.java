@@ -854,11 +854,16 @@ public final class DancedLock {
             load(k, dancers);
             int felt = 0;
             for (int b = 0; b < floor.boards; b++) {
-                if (loads[b] >= floor.needs[b]) {
+                if (missingOn(b) <= 0) {
                     felt |= 1 << b;
                 }
             }
             return felt;
+        }
+
+        /** The weight that a board lacks; none is left, once it is felt. */
+        private int missingOn(int b) {
+            return floor.hasBoard(b) ? floor.needs[b] - loads[b] : 0;
         }
 
         /** Loads the boards with those who have their step by now: of number below known, or bound to one. */
@@ -868,14 +873,18 @@ public final class DancedLock {
                 boolean bound = isBound(k, d);
                 int b = stepOf(bound ? k - 1 : k, d);
                 if ((bound || d < known) && floor.hasBoard(b)) {
-                    loads[b] += pulls[d];
+                    loads[b] += pullOf(d);
                 }
             }
         }
 
         /** Whether a dancer treads, limping, what it trod in the beat ahead. */
         private boolean isBound(int k, int d) {
-            return k % 2 == 1 && d >= 0 && d < dancers && limping[d];
+            return k % 2 == 1 && d >= 0 && d < dancers && d < Troupe.MOST && limping[d];
+        }
+
+        private int pullOf(int d) {
+            return d >= 0 && d < dancers && d < Troupe.MOST ? pulls[d] : 0;
         }
 
         /** An odd beat hangs on the one ahead alone, so that each two beats are sought by themselves. */
@@ -914,7 +923,7 @@ public final class DancedLock {
 
         /** The limpers alone bind the odd beat k: what failed behind their boards is not sought again. */
         private boolean placeBehind(int door, int k) {
-            int row = limpersRow(k - 1);
+            int row = limpersRow(k);
             int word = row / 64;
             if (word < 0 || word >= hopeless.length || (hopeless[word] >>> row % 64 & 1) != 0) {
                 return false;
@@ -926,7 +935,7 @@ public final class DancedLock {
         private int limpersRow(int k) {
             int row = 0;
             for (int d = 0; d < dancers; d++) {
-                row = Floor.MOST_BOARDS * row + (limping[d] ? stepOf(k, d) : 0);
+                row = Floor.MOST_BOARDS * row + (isBound(k, d) ? stepOf(k - 1, d) : 0);
             }
             return row;
         }
@@ -956,7 +965,7 @@ public final class DancedLock {
             load(k, d);
             int lack = 0;
             for (int b = 0; b < floor.boards; b++) {
-                int missing = floor.needs[b] - loads[b];
+                int missing = missingOn(b);
                 boolean wanted = (figure >> b & 1) != 0;
                 if (!wanted && missing <= 0) {
                     return false;
@@ -972,7 +981,7 @@ public final class DancedLock {
             int weight = 0;
             for (int d = from; d < dancers; d++) {
                 if (!isBound(k, d)) {
-                    weight += pulls[d];
+                    weight += pullOf(d);
                 }
             }
             return weight;
